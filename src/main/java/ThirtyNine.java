@@ -50,10 +50,10 @@ public final class ThirtyNine {
         if (schoolCount >= schools.length) {
             return FULL;
         }
-        schools[schoolCount] = page.asSchool(schoolCount);
-        page.clear();
+        School founded = page.takeSchool(schoolCount);
+        schools[schoolCount] = founded;
         schoolCount++;
-        return schoolCount - 1;
+        return founded.number;
     }
 
     public int counts(int school, int x, int y) {
@@ -563,12 +563,11 @@ public final class ThirtyNine {
         private static final int MOST_TERMS = 4, BYTES = 8, TOP_LETTER = 126;
 
         private final int[] letters = new int[MOST_LETTERS];
-        private final int[] times = new int[School.PARTS];
+        private School draft = new School();
         private int size;
         private int awaited;
         private int terms;
         private int digit;
-        private int tangles;
 
         int write(long w) {
             int more = lettersIn(w);
@@ -611,13 +610,11 @@ public final class ThirtyNine {
             return before;
         }
 
-        /** Reads the page from its start; what was read up to the answered place stays in the fields. */
+        /** Reads the page from its start; what was read up to the answered place stays in the draft. */
         int firstFault() {
             awaited = TERM;
             terms = 0;
-            for (int part = 0; part < times.length; part++) {
-                times[part] = 0;
-            }
+            draft.forget();
             for (int place = 0; place < size && place < letters.length; place++) {
                 if (!reads(letters[place])) {
                     return place;
@@ -630,9 +627,13 @@ public final class ThirtyNine {
             return firstFault() == size && awaited == NOTHING;
         }
 
-        School asSchool(int number) {
-            firstFault();
-            return new School(number, times, tangles);
+        /** The school that isSchool() has just read; the page is empty then. */
+        School takeSchool(int number) {
+            School taken = draft;
+            taken.number = number;
+            draft = new School();
+            size = 0;
+            return taken;
         }
 
         private boolean reads(int letter) {
@@ -644,7 +645,8 @@ public final class ThirtyNine {
                 case SIGN:
                     return readsSign(letter);
                 case TANGLES:
-                    return readsTangles(letter);
+                    awaited = NOTHING;
+                    return draft.takesTangles(letter);
                 default:
                     return false;
             }
@@ -656,24 +658,19 @@ public final class ThirtyNine {
 
         private boolean readsTerm(int letter) {
             terms++;
-            if (isDigit(letter)) {
-                digit = letter - '0';
-                times[School.ONE] += digit;
-                awaited = digit == 0 ? SIGN : DIGIT_OR_SIGN;
-                return true;
+            if (!isDigit(letter)) {
+                awaited = SIGN;
+                return draft.takesLetter(letter);
             }
-            int part = School.partOf(letter);
-            if (part < 0 || part >= times.length) {
-                return false;
-            }
-            times[part]++;
-            awaited = SIGN;
+            digit = letter - '0';
+            draft.takesNumber(digit);
+            awaited = digit == 0 ? SIGN : DIGIT_OR_SIGN;
             return true;
         }
 
         private boolean readsSecondDigit(int letter) {
-            // The first digit counted once already, and stands for ten times as much now.
-            times[School.ONE] += 9 * digit + letter - '0';
+            // The first digit was taken once already, and stands for ten times as much now.
+            draft.takesNumber(9 * digit + letter - '0');
             awaited = SIGN;
             return true;
         }
@@ -687,12 +684,6 @@ public final class ThirtyNine {
             return letter == ';';
         }
 
-        private boolean readsTangles(int letter) {
-            tangles = letter;
-            awaited = NOTHING;
-            return letter == School.STRIKES_AGAIN || letter == School.OTHER_STRIKES || letter == School.LESSER_STRIKES;
-        }
-
         long mixInto(long start) {
             long h = start;
             for (int i = 0; i < size && i < letters.length; i++) {
@@ -702,47 +693,57 @@ public final class ThirtyNine {
         }
     }
 
-    /** A rule of counting, as how often each part is taken, and a rule of tangled strings. */
+    /** A rule of counting, as how often each letter is taken, and a rule of tangled strings. */
     private static final class School {
-        static final int PARTS = 6, ONE = 5;
         static final int STRIKES_AGAIN = 't', OTHER_STRIKES = 'o', LESSER_STRIKES = 'n';
 
-        final int number;
-        final int tangles;
-        private final int timesX;
-        private final int timesY;
-        private final int timesGreater;
-        private final int timesLesser;
-        private final int timesHalf;
-        private final int always;
+        int number;
+        int tangles;
+        private int timesX;
+        private int timesY;
+        private int timesGreater;
+        private int timesLesser;
+        private int timesHalf;
+        private int always;
 
-        School(int number, int[] times, int tangles) {
-            this.number = number;
-            this.tangles = tangles;
-            boolean whole = times.length == PARTS;
-            timesX = whole ? times[0] : 0;
-            timesY = whole ? times[1] : 0;
-            timesGreater = whole ? times[2] : 0;
-            timesLesser = whole ? times[3] : 0;
-            timesHalf = whole ? times[4] : 0;
-            always = whole ? times[ONE] : 0;
+        void forget() {
+            timesX = 0;
+            timesY = 0;
+            timesGreater = 0;
+            timesLesser = 0;
+            timesHalf = 0;
+            always = 0;
         }
 
-        static int partOf(int letter) {
+        void takesNumber(int more) {
+            always += more;
+        }
+
+        boolean takesLetter(int letter) {
             switch (letter) {
                 case 'x':
-                    return 0;
+                    timesX++;
+                    return true;
                 case 'y':
-                    return 1;
+                    timesY++;
+                    return true;
                 case 'm':
-                    return 2;
+                    timesGreater++;
+                    return true;
                 case 'l':
-                    return 3;
+                    timesLesser++;
+                    return true;
                 case 'h':
-                    return 4;
+                    timesHalf++;
+                    return true;
                 default:
-                    return NONE;
+                    return false;
             }
+        }
+
+        boolean takesTangles(int letter) {
+            tangles = letter;
+            return letter == STRIKES_AGAIN || letter == OTHER_STRIKES || letter == LESSER_STRIKES;
         }
 
         int countAfter(int x, int y) {

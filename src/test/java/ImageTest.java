@@ -10,6 +10,7 @@ final class ImageTest {
         digestOfNothing();
         digestOfAll();
         digestOfThePage();
+        digestWhenFull();
         CHECKS.end();
     }
 
@@ -109,7 +110,8 @@ final class ImageTest {
         for (int i = 0; i < 7; i++) {
             x.comer(0, i, i);
         }
-        int[] want = {2, 5, 1, 3, 4, 7, 6};
+        x.beats(2, 0);
+        int[] want = {2, 5, 2, 3, 4, 7, 6};
         for (int what = 0; what <= 6; what++) {
             CHECKS.due("33 count(" + what + ")", x.count(what), want[what]);
         }
@@ -151,6 +153,41 @@ final class ImageTest {
             2, 2, 0, 2, 1, 1, 2);
         // By "l" and 9 the first comes to 19 in 9 of ten; the second, by the less of 25 and 14, to 14.
         CHECKS.due("34 all", x.digest(), want);
+    }
+
+    /** As many of everything as there may be, then the comers and the page gone: by the model. */
+    private static void digestWhenFull() {
+        ThirtyNine x = new ThirtyNine();
+        Model model = new Model();
+        for (String text : new String[] {"x+y;t", "l+9;n", "m+h;o"}) {
+            x.letters(Checks.packed(text));
+            model.letters(Checks.packed(text));
+            x.school();
+            model.school();
+        }
+        for (int i = 0; i < 10; i++) {
+            x.nut(i % 5, i % 3, 1 + i % 9, i, 20 + i);
+            model.nut(i % 5, i % 3, 1 + i % 9, i, 20 + i);
+            x.claim(i, i + 3);
+            model.claim(i, i + 3);
+        }
+        for (int i = 0; i < 11; i++) {
+            x.told(i % 8, (3 * i + 1) % 8);
+            model.told(i % 8, (3 * i + 1) % 8);
+            x.comer(i % 3, i, i);
+            model.comer(i % 3, i, i);
+            x.letters('a' + i);
+            model.letters('a' + i);
+        }
+        CHECKS.due("34 full", x.digest(), model.digest());
+        CHECKS.due("31 full", x.image(), 8);
+        CHECKS.due("32 full", x.restore(), 8);
+        CHECKS.due("34 full, gone on from the image", x.digest(), model.digest());
+        x.gone();
+        model.gone();
+        x.blank();
+        model.blank();
+        CHECKS.due("34 comers and letters gone", x.digest(), model.digest());
     }
 
     private static void digestOfThePage() {

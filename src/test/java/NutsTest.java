@@ -10,6 +10,7 @@ final class NutsTest {
         fight();
         fightOfTangles();
         fightsOfManySeeds();
+        leastAndGreatestChance();
         would();
         scales();
         CHECKS.end();
@@ -37,6 +38,9 @@ final class NutsTest {
         CHECKS.due("8 outside ahead of full", x.nut(0, 0, 5, 5, 100), ThirtyNine.OUTSIDE);
         CHECKS.due("8 unknown ahead of full", x.nut(0, 1, 5, 5, 5), ThirtyNine.UNKNOWN);
         CHECKS.due("8 eight", x.count(1), 8);
+        CHECKS.due("10 the eighth", x.about(7, 4), 7);
+        CHECKS.due("10 unknown behind the eighth", x.about(8, 0), ThirtyNine.UNKNOWN);
+        CHECKS.due("10 unknown far behind", x.about(Integer.MAX_VALUE, 0), ThirtyNine.UNKNOWN);
     }
 
     private static ThirtyNine ofAllKinds() {
@@ -183,6 +187,24 @@ final class NutsTest {
             CHECKS.due("12 by one with cracks, seed " + seed, x.fight(left, 2, seed), told.winner);
             CHECKS.due("12 cracks that stayed", x.about(left, 6), told.cracks[left]);
         }
+    }
+
+    /** The first strike by these seeds is not tangled, and draws 95, 94, 0, 1 of a hundred. */
+    private static void leastAndGreatestChance() {
+        int draws95 = 35, draws94 = 153, draws0 = 80, draws1 = 19;
+        ThirtyNine x = Checks.with("x;o");
+        x.nut(4, 0, 1, 0, 20);
+        x.nut(0, 0, 1, 0, 20);
+        x.nut(3, 0, 9, 0, 20);
+        CHECKS.due("12 the paper wins", x.fight(0, 1, 56), 0);
+        CHECKS.due("12 with six cracks", x.about(0, 6), 6);
+        // 15, 5 times 12 and 4 times 6 are 99: 95 at most.
+        CHECKS.due("13 94 breaks", x.would(2, 0, draws94, 1), 1);
+        CHECKS.holds("13 95 does not", x.would(2, 0, draws95, 1) > 1);
+        // 15 less 5 times 12 is below 1: 1 at least.
+        CHECKS.due("13 0 breaks", x.would(0, 2, draws0, 1), 1);
+        CHECKS.due("13 so that the paper wins", x.would(0, 2, draws0, 0), 0);
+        CHECKS.holds("13 1 does not", x.would(0, 2, draws1, 1) > 1);
     }
 
     private static void would() {

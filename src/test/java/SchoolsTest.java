@@ -137,7 +137,12 @@ final class SchoolsTest {
         CHECKS.due("6 x above", x.counts(0, 1000, 0), ThirtyNine.OUTSIDE);
         CHECKS.due("6 y below", x.counts(0, 0, -1), ThirtyNine.OUTSIDE);
         CHECKS.due("6 y above", x.counts(0, 0, 1000), ThirtyNine.OUTSIDE);
-        CHECKS.due("6 at the edge", x.counts(0, 999, 999), 999);
+        CHECKS.due("6 at the greatest", x.counts(0, 999, 999), 999);
+        CHECKS.due("6 at the least", x.counts(0, 0, 0), 0);
+        ThirtyNine full = Checks.with("x;t", "y;t", "7;t");
+        CHECKS.due("6 the third", full.counts(2, 1, 2), 7);
+        CHECKS.due("6 unknown behind the third", full.counts(3, 0, 0), ThirtyNine.UNKNOWN);
+        CHECKS.due("6 unknown far behind", full.counts(Integer.MAX_VALUE, 0, 0), ThirtyNine.UNKNOWN);
     }
 
     private static void countsBy(String text, int x, int y, int want) {

@@ -173,6 +173,15 @@ final class SeasonTest {
         // a with c: 4 times b over d 9; a with d: 9 times b over c 6.
         CHECKS.due("29 a with d", x.last(0, 1, 2, 3), 2);
         CHECKS.due("29 a with c", x.last(0, 1, 3, 2), 1);
+        // Hard: 9, 6 first; with 5: 9 times 4, with 7: 7 times 6.
+        CHECKS.due("29 both ways are near", x.last(4, 2, 0, 1), 2);
+        CHECKS.due("29 both ways are near, turned", x.last(4, 2, 1, 0), 1);
+        // Hard: 5, 7 first; with 6: 4 times 3, with 9: 1 times 6.
+        CHECKS.due("29 the one below the other", x.last(0, 1, 2, 4), 1);
+        CHECKS.due("29 the one below the other, turned", x.last(0, 1, 4, 2), 2);
+        // Hard: 6, 0 first; with 5: 6 times 1, with 7: 4 times 1.
+        CHECKS.due("29 the second has hardly a chance", x.last(2, 3, 0, 1), 1);
+        CHECKS.due("29 the second has hardly a chance, turned", x.last(2, 3, 1, 0), 2);
         ThirtyNine like = Checks.with("x+1;t");
         for (int i = 0; i < 4; i++) {
             like.nut(0, 0, 5, 0, 20);

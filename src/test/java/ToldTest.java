@@ -140,6 +140,13 @@ final class ToldTest {
         CHECKS.due("19 of the second with one", x.most(1, 1), 2);
         CHECKS.due("19 of the second with two", x.most(1, 2), 6);
         CHECKS.due("19 with all", x.most(1, 18), 6);
+        CHECKS.due("19 of the third by no fight at all", x.most(2, 18), 3);
+        ThirtyNine lesser = Checks.with("l;t");
+        lesser.nut(0, 0, 5, 9, 20);
+        lesser.nut(0, 0, 5, 1, 20);
+        lesser.told(0, 1);
+        CHECKS.due("19 the fight makes it less", lesser.most(0, 0), 1);
+        CHECKS.due("19 the greatest is that of the empty set", lesser.most(0, 1), 9);
         x.claim(0, 8);
         CHECKS.due("19 a claim more", x.most(1, 2), 2);
         CHECKS.due("19 with three", x.most(1, 3), 6);
@@ -163,6 +170,10 @@ final class ToldTest {
         CHECKS.due("20 first", x.whose(0), 1);
         CHECKS.due("20 second", x.whose(1), 1);
         CHECKS.due("20 third", x.whose(2), 1);
+        ThirtyNine y = nuts(1, 2);
+        y.told(0, 1);
+        y.claim(0, 1);
+        CHECKS.due("20 the empty set is one of them", y.whose(0), 1);
     }
 
     private static void reach() {
@@ -183,6 +194,30 @@ final class ToldTest {
         CHECKS.due("21 five: each adds one, whoever breaks it", all.reach(7, 31), 1 << 5);
         CHECKS.due("21 five at most", all.reach(7, 63), ThirtyNine.OUTSIDE);
         CHECKS.due("21 the first and the last", all.reach(0, 1 << 7), 1 << 1);
+        reachOfMany();
+    }
+
+    /** By "x+h" what is broken by others is halved on its way: many counts, all tried by the model. */
+    private static void reachOfMany() {
+        String[] texts = {"x+h;t", "l+3;o", "y+1;n"};
+        int[] counts = {1, 9, 4, 7, 3, 0, 6, 8};
+        for (int how = 0; how < 4; how++) {
+            ThirtyNine x = Checks.with(texts);
+            Model model = new Model();
+            for (String text : texts) {
+                model.letters(Checks.packed(text));
+                model.school();
+            }
+            for (int i = 0; i < 8; i++) {
+                x.nut(0, i * how % 3, 5, counts[i], 20);
+                model.nut(0, i * how % 3, 5, counts[i], 20);
+            }
+            x.meeting(how);
+            model.meeting(how);
+            CHECKS.due("21 of many, the last", x.reach(7, 31), model.reach(7, 31));
+            CHECKS.due("21 of many, the first", x.reach(0, 62 << 2), model.reach(0, 62 << 2));
+            CHECKS.due("21 of many, one between", x.reach(3, 0b10110110), model.reach(3, 0b10110110));
+        }
     }
 
     private static void reachAtTheTop() {
