@@ -17,7 +17,7 @@ public final class ThirtyNine {
     private final School[] schools = new School[MOST_SCHOOLS];
     private final Nut[] nuts = new Nut[MOST_NUTS];
     private final Bout bout = new Bout();
-    private final Ledger ledger = new Ledger(nuts);
+    private final Ledger ledger = new Ledger();
     private final Reaching reaching = new Reaching();
     private final Comers comers = new Comers();
     private final int[] seats = new int[4];
@@ -215,7 +215,7 @@ public final class ThirtyNine {
         if (!ledger.hasSet(set)) {
             return OUTSIDE;
         }
-        boolean canBe = ledger.follow(set, meetingRule);
+        boolean canBe = ledger.follow(set, nuts, meetingRule);
         if (known == null) {
             return canBe ? 1 : 0;
         }
@@ -226,7 +226,7 @@ public final class ThirtyNine {
         if (isOutside(what, 0, 1)) {
             return OUTSIDE;
         }
-        ledger.findFewestLies(meetingRule);
+        ledger.findFewestLies(nuts, meetingRule);
         return what == 0 ? ledger.fewestLies : ledger.fewestSet;
     }
 
@@ -235,15 +235,15 @@ public final class ThirtyNine {
         if (known == null) {
             return UNKNOWN;
         }
-        return isOutside(lies, 0, TOP_LIES) ? OUTSIDE : ledger.greatestCount(known, lies, meetingRule);
+        return isOutside(lies, 0, TOP_LIES) ? OUTSIDE : ledger.greatestCount(known, lies, nuts, meetingRule);
     }
 
     public int whose(int fight) {
         if (isOutside(fight, 0, ledger.told - 1)) {
             return UNKNOWN;
         }
-        ledger.findFewestLies(meetingRule);
-        return ledger.fewestWithout(fight, meetingRule);
+        ledger.findFewestLies(nuts, meetingRule);
+        return ledger.fewestWithout(fight, nuts, meetingRule);
     }
 
     public long reach(int nut, int others) {
@@ -398,7 +398,7 @@ public final class ThirtyNine {
         h = mixed(h, meetingRule);
         h = mixNuts(h);
         h = ledger.mixInto(h);
-        ledger.findFewestLies(meetingRule);
+        ledger.findFewestLies(nuts, meetingRule);
         h = mixed(mixed(h, ledger.fewestLies), ledger.fewestSet);
         h = comers.mixInto(h);
         h = mixSeasons(h);
@@ -980,7 +980,6 @@ public final class ThirtyNine {
         int told;
         int fewestLies;
         int fewestSet;
-        private final Nut[] nuts;
         private final int[] winners = new int[MOST_TOLD];
         private final int[] losers = new int[MOST_TOLD];
         private final int[] keptWinners = new int[MOST_TOLD];
@@ -988,10 +987,6 @@ public final class ThirtyNine {
         private final int[] tallies = new int[MOST_NUTS];
         private final int[] grades = new int[MOST_NUTS];
         private int keptTold;
-
-        Ledger(Nut[] nuts) {
-            this.nuts = nuts;
-        }
 
         int add(Nut winner, Nut loser) {
             if (told >= winners.length) {
@@ -1020,7 +1015,7 @@ public final class ThirtyNine {
         }
 
         /** Whether a set of told fights can be; the counts by it stand in the tallies then. */
-        boolean follow(int set, int rule) {
+        boolean follow(int set, Nut[] nuts, int rule) {
             for (int i = 0; i < nuts.length && nuts[i] != null; i++) {
                 tallies[i] = nuts[i].firstTally;
             }
@@ -1050,7 +1045,7 @@ public final class ThirtyNine {
         }
 
         /** The lies of the set that was followed last. */
-        private int liesOf(int set) {
+        private int liesOf(int set, Nut[] nuts) {
             int lies = told - Integer.bitCount(set);
             for (int i = 0; i < nuts.length && nuts[i] != null; i++) {
                 if (nuts[i].claim != NONE && nuts[i].claim != tallies[i]) {
@@ -1060,12 +1055,12 @@ public final class ThirtyNine {
             return lies;
         }
 
-        void findFewestLies(int rule) {
+        void findFewestLies(Nut[] nuts, int rule) {
             fewestLies = TOP_LIES + 1;
             fewestSet = 0;
             for (int set = 0; set < 1 << told; set++) {
-                if (follow(set, rule)) {
-                    int lies = liesOf(set);
+                if (follow(set, nuts, rule)) {
+                    int lies = liesOf(set, nuts);
                     boolean moreFights = Integer.bitCount(set) > Integer.bitCount(fewestSet);
                     if (lies < fewestLies || lies == fewestLies && moreFights) {
                         fewestLies = lies;
@@ -1075,10 +1070,10 @@ public final class ThirtyNine {
             }
         }
 
-        int greatestCount(Nut nut, int mostLies, int rule) {
+        int greatestCount(Nut nut, int mostLies, Nut[] nuts, int rule) {
             int greatest = NONE;
             for (int set = 0; set < 1 << told; set++) {
-                if (follow(set, rule) && liesOf(set) <= mostLies) {
+                if (follow(set, nuts, rule) && liesOf(set, nuts) <= mostLies) {
                     greatest = Math.max(greatest, followedCount(nut));
                 }
             }
@@ -1086,10 +1081,10 @@ public final class ThirtyNine {
         }
 
         /** In how many sets of the fewest lies, found ahead of this, a fight is not. */
-        int fewestWithout(int fight, int rule) {
+        int fewestWithout(int fight, Nut[] nuts, int rule) {
             int sets = 0;
             for (int set = 0; set < 1 << told; set++) {
-                if ((set >> fight & 1) == 0 && follow(set, rule) && liesOf(set) == fewestLies) {
+                if ((set >> fight & 1) == 0 && follow(set, nuts, rule) && liesOf(set, nuts) == fewestLies) {
                     sets++;
                 }
             }
