@@ -11,6 +11,7 @@ final class NutsTest {
         fightOfTangles();
         fightsOfManySeeds();
         leastAndGreatestChance();
+        fiftyStrikes();
         would();
         scales();
         CHECKS.end();
@@ -205,6 +206,16 @@ final class NutsTest {
         CHECKS.due("13 0 breaks", x.would(0, 2, draws0, 1), 1);
         CHECKS.due("13 so that the paper wins", x.would(0, 2, draws0, 0), 0);
         CHECKS.holds("13 1 does not", x.would(0, 2, draws1, 1) > 1);
+    }
+
+    /** The longest fight known: the struck one breaks by the fiftieth strike, twenty of them tangled. */
+    private static void fiftyStrikes() {
+        ThirtyNine x = two("x+1;n", 0, 1, 0, 5);
+        int seed = 64869361;
+        CHECKS.due("13 who wins", x.would(0, 1, seed, 0), 1);
+        CHECKS.due("13 fifty strikes", x.would(0, 1, seed, 1), 50);
+        CHECKS.due("13 twenty tangled", x.would(0, 1, seed, 2), 20);
+        CHECKS.due("12 who won", x.fight(0, 1, seed), 1);
     }
 
     private static void would() {
