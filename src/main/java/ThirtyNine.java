@@ -982,8 +982,6 @@ public final class ThirtyNine {
         int fewestSet;
         private final int[] winners = new int[MOST_TOLD];
         private final int[] losers = new int[MOST_TOLD];
-        private final int[] keptWinners = new int[MOST_TOLD];
-        private final int[] keptLosers = new int[MOST_TOLD];
         private final int[] tallies = new int[MOST_NUTS];
         private final int[] grades = new int[MOST_NUTS];
         private int keptTold;
@@ -998,15 +996,12 @@ public final class ThirtyNine {
             return told;
         }
 
+        /** Fights only come behind those that are kept, so how many there were is enough to go back to them. */
         void keep() {
-            System.arraycopy(winners, 0, keptWinners, 0, MOST_TOLD);
-            System.arraycopy(losers, 0, keptLosers, 0, MOST_TOLD);
             keptTold = told;
         }
 
         void goBack() {
-            System.arraycopy(keptWinners, 0, winners, 0, MOST_TOLD);
-            System.arraycopy(keptLosers, 0, losers, 0, MOST_TOLD);
             told = keptTold;
         }
 
