@@ -85,6 +85,10 @@ final class FaceTest {
         for (Class<?> one : inside) {
             CHECKS.holds("static: " + one, Modifier.isStatic(one.getModifiers()));
             CHECKS.holds("private: " + one, Modifier.isPrivate(one.getModifiers()));
+            for (Method method : one.getDeclaredMethods()) {
+                boolean taken = Arrays.stream(METHODS).anyMatch(face -> face.contains(" " + method.getName() + "("));
+                CHECKS.holds("no public name is borne inside: " + method, !taken);
+            }
             long fields = Arrays.stream(one.getDeclaredFields()).filter(f -> !Modifier.isStatic(f.getModifiers())).count();
             CHECKS.holds("some twenty fields at most: " + one, fields <= 20);
         }

@@ -35,6 +35,7 @@ final class SchoolEdgesTest {
         countsHalfRoundedDown();
         countsOfLikeNumbers();
         meetingOutside();
+        meetingAtFirstByWhoWins();
         meetingOfLikeCounts();
         CHECKS.end();
     }
@@ -365,6 +366,27 @@ final class SchoolEdgesTest {
         EMPTY.span("7 how", 0, 3, (x, v) -> x.meeting(v), OUTSIDE);
         SOME.span("7 how, of some", 0, 3, (x, v) -> x.meeting(v), OUTSIDE);
         SOME.answer("7 how they did", x -> x.meeting(2), 2);
+    }
+
+    /** By "x+y" 5 and 3 are 8, by "x+9" they are 14: of who wins, of who loses, the more, the less. */
+    private static void meetingAtFirstByWhoWins() {
+        int[][] won = {{8, 14}, {14, 8}, {14, 14}, {8, 8}};
+        for (int winner = 0; winner <= 1; winner++) {
+            int of = winner;
+            Twins unlike = new Twins(CHECKS, () -> {
+                ThirtyNine x = Checks.with("x+y;t", "x+9;t");
+                x.nut(0, of, 5, 5, 20);
+                x.nut(0, 1 - of, 5, 3, 20);
+                return x;
+            });
+            unlike.answer("7 at first by who wins", x -> x.beats(0, 1), won[0][winner]);
+            for (int how = 0; how <= 3; how++) {
+                int told = how;
+                unlike.answer("7 at first 0, not " + how, x -> x.meeting(told), 0);
+                unlike.answer("7 by " + how, x -> x.meeting(told) + x.beats(0, 1), won[how][winner]);
+                unlike.answer("7 refused behind " + how, x -> x.meeting(told) + x.meeting(4), OUTSIDE);
+            }
+        }
     }
 
     /** By "x+y" 5 and 3 are 8, by "x+3" too: whatever is told, it is the same. */
