@@ -93,7 +93,7 @@ public final class ThirtyNine {
             return FULL;
         }
         Nut made = newNut(kind, known, hardness);
-        made.isTold(nutCount, count, weight);
+        made.begins(nutCount, count, weight);
         nuts[nutCount] = made;
         nutCount++;
         return made.number;
@@ -787,7 +787,7 @@ public final class ThirtyNine {
             this.hardness = hardness;
         }
 
-        final void isTold(int itsNumber, int itsTally, int itsWeight) {
+        final void begins(int itsNumber, int itsTally, int itsWeight) {
             number = itsNumber;
             firstTally = itsTally;
             tally = itsTally;

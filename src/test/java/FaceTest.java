@@ -39,10 +39,14 @@ final class FaceTest {
             if (!Modifier.isPrivate(field.getModifiers())) {
                 shown.add(field.getName());
             }
-            boolean fixed = !Modifier.isStatic(field.getModifiers()) || Modifier.isFinal(field.getModifiers());
-            CHECKS.holds("static fields are final: " + field.getName(), fixed);
+            staticIsConstant(field);
         }
         CHECKS.holds("no other field is shown", shown.equals(Set.of("NONE", "UNKNOWN", "OUTSIDE", "STATE", "FULL")));
+    }
+
+    private static void staticIsConstant(Field field) {
+        boolean constant = Modifier.isFinal(field.getModifiers()) && field.getType() == int.class;
+        CHECKS.holds("static fields are constants: " + field, !Modifier.isStatic(field.getModifiers()) || constant);
     }
 
     private static void methods() {
@@ -89,6 +93,7 @@ final class FaceTest {
                 boolean taken = Arrays.stream(METHODS).anyMatch(face -> face.contains(" " + method.getName() + "("));
                 CHECKS.holds("no public name is borne inside: " + method, !taken);
             }
+            Arrays.stream(one.getDeclaredFields()).forEach(FaceTest::staticIsConstant);
             long fields = Arrays.stream(one.getDeclaredFields()).filter(f -> !Modifier.isStatic(f.getModifiers())).count();
             CHECKS.holds("some twenty fields at most: " + one, fields <= 20);
         }

@@ -1,6 +1,7 @@
 import java.io.IOException;
 import java.nio.file.Files;
 import java.nio.file.Path;
+import java.util.Set;
 import java.util.regex.Matcher;
 import java.util.regex.Pattern;
 
@@ -12,6 +13,10 @@ final class RulesTest {
         "\\bsynchronized\\b", "->", "::", "@", "Exact\\b", "\\bdouble\\b", "\\bfloat\\b", "\\bjava\\.", "\\bObject\\b",
         "\\bprotected\\b", "\\bvar\\b", "static \\{", "\\[\\]\\[\\]"
     };
+    /** What the program takes from the library; more may be put here that LANGUAGE.md lists. */
+    private static final Set<String> LIBRARY = Set.of(
+        "Math.max", "Math.min", "Integer.bitCount", "Integer.MAX_VALUE", "Long.bitCount", "Long.numberOfTrailingZeros");
+    private static final Pattern STATIC_USE = Pattern.compile("\\b(?:[A-Z]\\w*[a-z]\\w*)\\.\\w+");
     private static final Pattern METHOD = Pattern.compile("(?m)^( +)(?:[a-z]+ )*[A-Za-z\\[\\]]+ ?[a-zA-Z]+\\(([^)]*)\\) \\{$");
 
     public static void main(String[] args) throws IOException {
@@ -22,8 +27,18 @@ final class RulesTest {
             CHECKS.holds("no " + banned, !matcher.find());
         }
         CHECKS.holds("plain signs alone", source.chars().allMatch(sign -> sign == '\n' || sign >= 32 && sign < 127));
+        library(code);
         methods(code);
         CHECKS.end();
+    }
+
+    private static void library(String code) {
+        Matcher matcher = STATIC_USE.matcher(code);
+        while (matcher.find()) {
+            String use = matcher.group();
+            boolean own = Pattern.compile("\\bclass " + use.substring(0, use.indexOf('.')) + "\\b").matcher(code).find();
+            CHECKS.holds("in the library's list: " + use, own || LIBRARY.contains(use));
+        }
     }
 
     private static void methods(String code) {

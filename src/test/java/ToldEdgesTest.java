@@ -35,6 +35,7 @@ final class ToldEdgesTest {
         reachFiveAtMost();
         reachOfNoOthers();
         reach62AtMost();
+        reachOfWhatIsToldAbove62();
         reachOfBrokenNuts();
         CHECKS.end();
     }
@@ -339,6 +340,17 @@ final class ToldEdgesTest {
         CHECKS.due("21 62 on its way", x.reach(0, 6), 1L << 31 | 1L << 25 | 1L << 24);
         CHECKS.due("11 but not when it beats", x.beats(1, 2), 99);
         CHECKS.due("11 whose half is more", x.beats(0, 1), 49);
+    }
+
+    /** What was told as 99 is 62 there from the first on: its half is 31, not 49. */
+    private static void reachOfWhatIsToldAbove62() {
+        for (int told : new int[] {61, 62, 63, 99}) {
+            ThirtyNine x = Worlds.nuts("h;t", 7, told);
+            CHECKS.due("21 half of a told " + told, x.reach(0, 2), 1L << Math.min(62, told) / 2);
+            CHECKS.due("11 half of it when it beats", x.beats(0, 1), told / 2);
+        }
+        CHECKS.due("21 the greater of 7 and a told 99", Worlds.nuts("m;t", 7, 99).reach(0, 2), 1L << 62);
+        CHECKS.due("21 the lesser of 7 and a told 99", Worlds.nuts("l;t", 7, 99).reach(0, 2), 1L << 7);
     }
 
     private static void reachOfBrokenNuts() {
